@@ -640,11 +640,14 @@ public final class CoastPull {
         private long bestFrom(int leg, int t) {
             long least = NO_CHOICE;
             int pairs = ways.pairCount(leg);
-            for (int pair = 0; pair < pairs && ways.pairTime(leg, pair) <= t; pair++) {
-                long rest = choices[t - ways.pairTime(leg, pair)];
-                if (rest != NO_CHOICE) {
+            for (int pair = 0; pair < pairs; pair++) {
+                int left = t - ways.pairTime(leg, pair);
+                if (left < 0) {
+                    break;
+                }
+                if (choices[left] != NO_CHOICE) {
                     long added = ((long) ways.pairPower(leg, pair) << POWER_SHIFT) + pair * placeValues[leg];
-                    least = Math.min(least, rest + added);
+                    least = Math.min(least, choices[left] + added);
                 }
             }
             return least;

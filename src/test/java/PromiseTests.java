@@ -32,6 +32,7 @@ public final class PromiseTests {
         sharingThatIsNot();
         sharingFollowsChanges();
         sharingOfManyLegs();
+        legsOfOneCell();
         log();
         judged();
         judgedWithFaults();
@@ -342,6 +343,7 @@ public final class PromiseTests {
 
     private static void waysBoundByLimits() {
         CoastPull x = withCells(16);
+        due("P12 0 2 4 6 .. 6 4 2 0", x.fastest(0), 30 + 10 + 6 + 10 * 5 + 6 + 10 + 30);
         for (int k = 0; k < 16; k++) {
             x.cell(k, 0, 1);
         }
@@ -521,6 +523,23 @@ public final class PromiseTests {
         }
     }
 
+    private static void legsOfOneCell() {
+        CoastPull x = withCells(16);
+        for (int post = 1; post < 16; post++) {
+            due("P4 a leg a cell", x.stop(post, true), post + 1);
+        }
+        due("P24 legs", x.count(1), 16);
+        due("P7 the last leg's first post", x.leg(15, false), 15);
+        due("P7 the last leg's last post", x.leg(15, true), 16);
+        due("P7 no more legs", x.leg(16, true), UNKNOWN);
+        for (int leg = 0; leg < 16; leg++) {
+            due("P12 leg " + leg, x.fastest(leg), NONE);
+            due("P16 leg " + leg, x.curve(leg), 0);
+            due("P19 leg " + leg, x.shareTime(1000, leg), NONE);
+        }
+        due("P18 no way at all", x.share(1000), NONE);
+    }
+
     private static void log() {
         CoastPull x = withCells(2);
         due("P21 below", x.log(-1), OUTSIDE);
@@ -602,6 +621,14 @@ public final class PromiseTests {
         dueJudged(x, 60, 6, 1, 1, 0);
         x.line(3);
         dueJudged(x, 0, 0, 0, NONE, 0);
+        // What was told before plays no part, be it with a fault or without.
+        for (int speed : new int[] {6, 2}) {
+            logAll(x, 0, speed, speed, speed);
+            x.clear();
+            x.log(0);
+            dueJudged(x, 0, 0, 0, NONE, 0);
+            x.clear();
+        }
     }
 
     private static void dueJudged(CoastPull x, int... wanted) {
