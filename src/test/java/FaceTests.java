@@ -52,6 +52,7 @@ public final class FaceTests {
         KIT.holds("public final class", Modifier.isPublic(modifiers) && Modifier.isFinal(modifiers));
         KIT.due("constructors", CoastPull.class.getDeclaredConstructors().length, 1);
         KIT.due("constructor's parameters", CoastPull.class.getDeclaredConstructors()[0].getParameterCount(), 0);
+        KIT.due("public constructor", CoastPull.class.getDeclaredConstructors()[0].getModifiers(), Modifier.PUBLIC);
         Set<String> shown = new TreeSet<>();
         for (Method method : CoastPull.class.getDeclaredMethods()) {
             if (!Modifier.isPrivate(method.getModifiers())) {
@@ -65,6 +66,8 @@ public final class FaceTests {
         for (Field field : CoastPull.class.getDeclaredFields()) {
             if (!Modifier.isPrivate(field.getModifiers())) {
                 constants.add(field.getName());
+                KIT.holds(field + " is a constant int", field.getType() == int.class
+                    && field.getModifiers() == (Modifier.PUBLIC | Modifier.STATIC | Modifier.FINAL));
             }
         }
         KIT.holds("the constants are those of the document: " + constants,

@@ -5,6 +5,8 @@ import java.util.List;
 public final class ReferenceTests {
     private static final int NONE = -1000000;
     private static final int CALLS = 512;
+    // Of ways of like power the one of least time, then by speeds; of such sharings by the times of their legs.
+    private static final int BY_TIME = 0, LEG_BY_LEG = 2;
     private static final TestKit KIT = new TestKit();
 
     private long seed;
@@ -192,12 +194,12 @@ public final class ReferenceTests {
         }
     }
 
-    /** Whether a way is better: by power, then time, then speeds. */
-    private static boolean isBetter(int[] way, int[] than) {
+    /** Whether a way is better: by power, then by what stands in it from a place on. */
+    private static boolean isBetter(int[] way, int[] than, int from) {
         if (than == null || way[1] != than[1]) {
             return than == null || way[1] < than[1];
         }
-        for (int i = 0; i < way.length; i++) {
+        for (int i = from; i < way.length; i++) {
             if (way[i] != than[i]) {
                 return way[i] < than[i];
             }
@@ -205,10 +207,10 @@ public final class ReferenceTests {
         return false;
     }
 
-    private static int[] bestOf(List<int[]> ways, int t) {
+    private static int[] bestOf(List<int[]> ways, int t, int from) {
         int[] best = null;
         for (int[] way : ways) {
-            if (way[0] <= t && isBetter(way, best)) {
+            if (way[0] <= t && isBetter(way, best, from)) {
                 best = way;
             }
         }
@@ -236,11 +238,14 @@ public final class ReferenceTests {
             x.stop(post, below(3) == 0);
         }
         List<List<int[]>> curves = new ArrayList<>();
+        List<List<int[]>> waysOfLegs = new ArrayList<>();
         for (int leg = 0; leg < x.count(1); leg++) {
             List<int[]> ways = new ArrayList<>();
             listWays(x, x.leg(leg, true), x.leg(leg, false), new int[3], ways);
             curves.add(waysAsDue(name + " leg " + leg, x, leg, ways));
+            waysOfLegs.add(ways);
         }
+        sharingsOfAllWays(name, x, waysOfLegs);
         for (int i = 0; i < 12; i++) {
             sharingAsDue(name, x, curves, between(60, 520));
         }
@@ -250,7 +255,7 @@ public final class ReferenceTests {
     private List<int[]> waysAsDue(String name, CoastPull x, int leg, List<int[]> ways) {
         List<int[]> curve = new ArrayList<>();
         for (int t = 0; t <= 1000; t += t < 400 ? 1 : 100) {
-            int[] best = bestOf(ways, t);
+            int[] best = bestOf(ways, t, BY_TIME);
             KIT.due(name + " best " + t, x.best(leg, t), best == null ? NONE : best[1]);
             KIT.due(name + " time " + t, x.bestTime(leg, t), best == null ? NONE : best[0]);
             if (best != null && best[0] == t) {
@@ -289,6 +294,43 @@ public final class ReferenceTests {
             }
         }
         return best;
+    }
+
+    // A sharing may have any way on a leg, on its curve or not; a list of all of them is made where it is short.
+    private void sharingsOfAllWays(String name, CoastPull x, List<List<int[]>> waysOfLegs) {
+        long sharings = 1;
+        for (List<int[]> ways : waysOfLegs) {
+            sharings *= ways.size();
+        }
+        if (sharings > 3000) {
+            return;
+        }
+        List<int[]> all = new ArrayList<>();
+        listSharings(waysOfLegs, 0, new int[2], all);
+        for (int i = 0; i < 12; i++) {
+            int t = i == 0 ? 1000 : between(60, 520);
+            int[] best = bestOf(all, t, LEG_BY_LEG);
+            KIT.due(name + " of all sharings, share " + t, x.share(t), best == null ? NONE : best[1]);
+            for (int leg = 0; leg < waysOfLegs.size(); leg++) {
+                KIT.due(name + " of all sharings, " + t + " of " + leg, x.shareTime(t, leg),
+                    best == null ? NONE : best[leg + 2]);
+            }
+        }
+    }
+
+    /** Time together, power together, then the times leg by leg. */
+    private static void listSharings(List<List<int[]>> waysOfLegs, int leg, int[] sharing, List<int[]> all) {
+        if (leg == waysOfLegs.size()) {
+            all.add(sharing);
+            return;
+        }
+        for (int[] way : waysOfLegs.get(leg)) {
+            int[] longer = java.util.Arrays.copyOf(sharing, sharing.length + 1);
+            longer[0] += way[0];
+            longer[1] += way[1];
+            longer[sharing.length] = way[0];
+            listSharings(waysOfLegs, leg + 1, longer, all);
+        }
     }
 
     private void sharingAsDue(String name, CoastPull x, List<List<int[]>> curves, int t) {

@@ -2,8 +2,9 @@ import java.util.ArrayList;
 import java.util.List;
 
 /**
- * What must leave no trace: a call that is refused, and a question that was asked before. Two objects are brought
- * up alike, one of them with the call beside, and then all later calls must answer alike.
+ * What must leave no trace: a call that is refused, a question that was asked before, and all that is done with
+ * another object. Two objects are brought up alike, one of them with the call beside, and then all later calls must
+ * answer alike.
  */
 public final class UnchangedTests {
     private static final int UNKNOWN = -1, OUTSIDE = -2, STATE = -3, FULL = -4;
@@ -35,6 +36,9 @@ public final class UnchangedTests {
             }
             for (Call change : changes(state)) {
                 askedBeforeLeavesNoTrace(state, change);
+            }
+            for (State other : states()) {
+                anotherObjectLeavesNoTrace(state, other);
             }
         }
         lastOf512Calls();
@@ -193,6 +197,29 @@ public final class UnchangedTests {
             x.needs(50);
             return change.deed().on(x);
         }, state);
+    }
+
+    // ---- another object
+
+    // One object answers all before the other one is made: what both shared would not be seen side by side.
+    private static void anotherObjectLeavesNoTrace(State state, State other) {
+        List<Deed> questions = questions(state.cells());
+        int asked = Math.min(questions.size(), QUESTIONS_AN_OBJECT);
+        CoastPull alone = state.made();
+        int[] answers = new int[asked];
+        for (int i = 0; i < asked; i++) {
+            answers[i] = questions.get(i).on(alone);
+        }
+        CoastPull x = state.made();
+        CoastPull beside = other.made();
+        beside.train(0, 2);
+        beside.cell(0, 1, 5);
+        beside.log(3);
+        for (int i = 0; i < asked; i++) {
+            int answer = i % 2 == 0 ? beside.cell(0, i % 8 - 4, 5) : beside.share(700);
+            KIT.holds("the object beside answers " + answer, answer != OUTSIDE);
+            KIT.due(state.name() + " beside " + other.name() + ", question " + i, questions.get(i).on(x), answers[i]);
+        }
     }
 
     // ---- what later calls show
